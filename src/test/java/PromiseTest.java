@@ -117,8 +117,8 @@ public final class PromiseTest {
         Check.same("2 second", x.addAlloy(0, 1, 0), 1);
         Check.same("2 third", x.addAlloy(0, 0, 1), 2);
         Check.same("2 most parts", x.addAlloy(9, 9, 9), 3);
-        Check.same("2 fifth", x.addAlloy(1, 2, 3), 4);
-        Check.same("2 same again", x.addAlloy(1, 2, 3), 5);
+        Check.same("2 fifth", x.addAlloy(1, 2, 1), 4);
+        Check.same("2 same again", x.addAlloy(1, 2, 1), 5);
         Check.refuses("2 seventh", STATE, () -> x.addAlloy(1, 1, 1));
         Check.refuses("2 argument before state", ARGUMENT, () -> x.addAlloy(0, 0, 0));
         Check.same("2 six", x.alloyCount(), 6);
@@ -697,6 +697,10 @@ public final class PromiseTest {
         x.inspect(2);
         Check.same("42 four of six", x.soldShare(), 4.0f / 6.0f);
         Check.refuses("41 none left", ARITHMETIC, () -> x.meanSqueak());
+        x.renewMould(1);
+        x.cast(1, 1, 9);
+        Check.same("41 nine", x.meanSqueak(), 456.0 / 9.0);
+        Check.same("36 nine", x.batchBySqueak(0), 3);
     }
 
     private static void isConsistent() {
