@@ -5,21 +5,43 @@ final class Check {
     }
 
     private static int wrong = 0;
+    private static Document document;
+    private static String sentence = "";
 
     private Check() {
+    }
+
+    static void read(Document read) {
+        document = read;
+    }
+
+    /** Names the sentence that the checks from here on hold the class to; the document must have it. */
+    static void sentence(String section, String words) {
+        sentence = section + ", \"" + words + "\": ";
+        same("the document has it", document.names(section, words), true);
+    }
+
+    /** The checks from here on are not for one sentence. */
+    static void noSentence() {
+        sentence = "";
     }
 
     /** Fails if the answer is not the due one, of the same class. */
     static void same(String what, Object got, Object due) {
         if (!got.equals(due)) {
             wrong++;
-            System.out.println(what + ": answered " + got + ", due is " + due);
+            System.out.println(sentence + what + ": answered " + got + ", due is " + due);
         }
     }
 
     /** Fails if the call does not throw an exception of just this class. */
     static void refuses(String what, Class<? extends RuntimeException> due, Call call) {
         same(what, outcome(call), "throws." + due.getSimpleName());
+    }
+
+    /** Fails if the call throws an exception. */
+    static void answers(String what, Call call) {
+        same(what + " answers", outcome(call).startsWith("throws."), false);
     }
 
     /** The answer as a text, or the class of the exception. */
