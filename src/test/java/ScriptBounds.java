@@ -83,9 +83,9 @@ final class ScriptBounds {
 
     /** In a script of each form each character is put wrong, and the script is cut off before each. */
     private static void eachForm() {
-        Check.sentence(SCRIPTS, "command = \"alloy \" digit digit digit | \"mould \" number | \"buy \" digit \" \" "
-                + "number | \"cast \" digit \" \" digit \" \" digit | \"test \" number | \"melt \" number | \"renew \" digit"
-                + " | \"limit \" number | \"step \" digit");
+        Check.sentence(SCRIPTS, "command = \"alloy \" digit digit digit | \"mould \" number "
+                + "| \"buy \" digit \" \" number | \"cast \" digit \" \" digit \" \" digit | \"test \" number "
+                + "| \"melt \" number | \"renew \" digit | \"limit \" number | \"step \" digit");
         for (String form : FORMS) {
             Check.same("form of " + form, hasForm(form), true);
             wrongAt(form.length(), form + "~");
